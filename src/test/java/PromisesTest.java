@@ -172,6 +172,7 @@ public final class PromisesTest {
         due("4 STAKED", x.change(0, 4, 1), 0);
         due("4 STAKED again", x.change(0, 4, 1), 1);
         due("4 not STAKED", x.change(0, 4, 0), 1);
+        due("4 none is STAKED", x.state(4), 0);
         int[][] wrong = {{0, 1, 100}, {0, 1, -1}, {0, 2, 10}, {0, 2, -1}, {0, 3, 6}, {0, 3, -1}, {0, 4, 2}, {0, 4, -1},
             {0, 0, 1}, {0, 5, 1}, {1, 1, 1}, {-1, 1, 1}};
         for (int[] w : wrong) due("4 wrong change", x.change(w[0], w[1], w[2]), BAD);
@@ -180,6 +181,7 @@ public final class PromisesTest {
         due("4 TIER is as it was", x.barrelOf(0, 3), 5);
         due("5 remake", x.remake(0, 1), 3);
         due("5 remake again", x.remake(0, 5), 1);
+        due("5 the KIND that it is", x.remake(0, 5), 5);
         due("5 KIND", x.barrelOf(0, 0), 5);
         due("5 KIND 0", x.remake(0, 0), BAD);
         due("5 KIND 6", x.remake(0, 6), BAD);
@@ -195,6 +197,8 @@ public final class PromisesTest {
         due("6 TIDE -1", x.water(-1, 0), BAD);
         due("6 WATER 16", x.water(0, 16), BAD);
         due("6 WATER -1", x.water(0, -1), BAD);
+        due("7 STEP of the lowest", x.tier(0, 0, 4), 0);
+        due("8 STEP of the lowest", x.tierOf(0, 0), 4);
         due("7 STEP", x.tier(5, 0, 9), 0);
         due("7 GRATE", x.tier(5, 1, 8), 0);
         due("7 STEP again", x.tier(5, 0, 1), 9);
@@ -249,6 +253,10 @@ public final class PromisesTest {
         for (int t = 1; t < 16; t++) x.tide();
         due("11 WATER behind TIDE 15", x.state(5), 0);
         due("11 TIDE at the end", x.state(0), 16);
+        for (int k = 2; k < 6; k++) x.barrel(1, 99, 0, 5);
+        due("11 FILL of six", x.state(6), 90 + 4 * 99);
+        x.anew();
+        due("11 FILL of six behind a TIDE", x.tide() * 0 + x.state(6), 90 + 4 * 98);
     }
 
     private static void tape() {
@@ -296,7 +304,17 @@ public final class PromisesTest {
         wills(x, "barrel if fill<0009 leave;barrel if 9999>fill bung;", 2, "22222");
         wills(x, "  vat   leave  ;  ", 1, "10000");
         wills(x, "vat leave;vat leave;vat leave;vat leave;vat leave;vat leave;vat leave;tun bung;", 8, "12200");
+        wills(x, "vat leave;vat leave;vat leave;vat leave;vat leave;vat leave;vat leave;keg if fill=50 bung;", 8, "10002");
+        wills(x, "barrel if 0 = tide leave;", 1, "11111");
         wills(x, "cask if not ( tide > 3 ) and not rise = 1 bung ;", 1, "00002");
+        x.lot();
+        x.lot();
+        x.water(2, 4);
+        x.change(0, 1, 2);
+        x.change(1, 2, 2);
+        wills(x, "barrel if tide=2 and rise=1 leave;", 1, "11111");
+        wills(x, "barrel if fill=tide or tide=chalk leave;", 1, "11000");
+        wills(x, "barrel if number=tide leave;", 1, "00100");
     }
 
     private static void wills(FloodCellar x, String text, int rules, String wills) {
@@ -313,6 +331,12 @@ public final class PromisesTest {
         fault("vat leave; ;", 11);
         fault("vats leave;", 0);
         fault(" Vat leave;", 1);
+        fault("vatz leave;", 0);
+        fault("stake leave;", 0);
+        fault("12345 leave;", 0);
+        fault("vat if fill<3 if;", 14);
+        fault("vat if fill < (3) leave;", 14);
+        fault(";".repeat(200), 0);
         fault("leave;", 0);
         fault("7;", 0);
         fault("vat leaves;", 4);
@@ -378,6 +402,8 @@ public final class PromisesTest {
         low.barrel(2, 5, 0, 0);
         due("14 it doesn't PAY", low.tide(), 0);
         due("14 FILL 0 at least", low.barrelOf(0, 1), 0);
+        for (int k = 1; k < 6; k++) low.barrel(k, 0, 0, k);
+        due("14 none of six PAYS", low.tide(), 0);
     }
 
     private static void bungs() {
@@ -443,6 +469,11 @@ public final class PromisesTest {
         due("17 the least of several", x.chalkFor(0), 0);
         tell(x, "barrel if chalk < 3 leave;");
         due("17 by THE RULES", x.chalkFor(0), 3);
+        x.tier(0, 0, 9);
+        tell(x, "barrel if chalk < 9 leave;");
+        due("17 CHALK 9", x.chalkFor(0), 9);
+        x.tier(0, 0, 0);
+        tell(x, "");
         due("17 CHALK stays", x.barrelOf(0, 2), 9);
         due("17 no such", x.chalkFor(1), BAD);
         due("17 number -1", x.chalkFor(-1), BAD);
@@ -554,7 +585,13 @@ public final class PromisesTest {
         due("22 what 6", x.rafts(6), BAD);
         FloodCellar few = new FloodCellar();
         few.barrel(1, 0, 0, 0);
+        due("22 one alone", few.rafts(-1), 1);
+        due("22 its own RAFT", few.rafts(0), 1);
         due("22 no such BARREL", few.rafts(1), BAD);
+        few.barrel(4, 0, 0, 1);
+        due("22 two alone", few.rafts(-1), 2);
+        few.change(1, 3, 0);
+        due("22 two of a TIER", few.rafts(0), 3);
     }
 
     private static void plans() {
@@ -563,6 +600,8 @@ public final class PromisesTest {
         x.barrel(1, 36, 0, 0);
         // Staked: the first PAYS 6, or 5 a TIDE later; the other one 7, then 6, and 1 more a TIDE from 30 on.
         due("23 none", x.best(0), 0);
+        due("24 none", x.ith(0, 0), NONE);
+        due("25 none", x.ways(0), 1);
         due("23 one", x.best(1), 8);
         due("24 one", x.ith(1, 0), 2);
         due("25 one", x.ways(1), 1);
@@ -663,6 +702,13 @@ public final class PromisesTest {
         forced.barrel(1, 9, 0, 1);
         // All the same: the least ACT.
         due("29 the least", forced.play(1), 1);
+        FloodCellar bunged = open();
+        bunged.barrel(1, 50, 0, 0);
+        bunged.water(0, 8);
+        tell(bunged, "vat if tide = 0 bung;");
+        // The bung is WORTH 1; then the other one wants that none is told.
+        due("28 the other one wants little", bunged.game(2), 1);
+        due("29 the bung", bunged.play(2), 1);
         FloodCellar dull = new FloodCellar();
         due("29 none", dull.play(4), 0);
     }
@@ -740,6 +786,46 @@ public final class PromisesTest {
         // By RISE 3, then 2: vats PAY twice, tuns twice; butts of CHALK 6 to 8 FLOAT 2, and of 9 3; kegs by CHALK.
         due("32 ahead of leaking", x.lone(1), 3);
         due("32 CHALK", x.lone(2), 6);
+        // Butts of CHALK 6 to 8; kegs and casks of 4, 5.
+        due("32 by CHALK", x.lone(0), 3 + 2 + 2);
+        strangersThatRunDry();
+    }
+
+    private static void strangersThatRunDry() {
+        FloodCellar x = new FloodCellar();
+        x.report(15, 1, 9, 9);
+        x.report(15, 0, 0, 0);
+        x.report(0, 0, 9, 9);
+        // A vat of 9 PAYS till it is dry, 9 times; by RISE 2 no other of 9 PAYS at all.
+        due("32 a dry one PAYS no more", x.lone(0), 10);
+        due("32 its KIND", x.lone(1), 1);
+        for (int k = 0; k < 10; k++) x.report(k, 0, 9 - k, 9 - k);
+        due("30 six at most", x.many(3), 6);
+        due("33 vats FIT", x.liar(), NONE);
+        x.forget();
+        x.water(0, 0);
+        x.water(1, 0);
+        x.report(0, 0, 9, 9);
+        x.report(1, 0, 9, 9);
+        x.report(2, 1, 0, 0);
+        // By RISE 0 butts, kegs, casks leak nothing; butts of CHALK 0 to 2 PAY.
+        due("32 butts, kegs, casks of 9", x.lone(0), 7 + 10 + 10);
+        x.forget();
+        x.report(0, 0, 99, 99);
+        x.report(1, 1, 1, 1);
+        x.report(1, 0, 99, 99);
+        due("32 butts, kegs, casks of 99", x.lone(0), 30);
+        x.report(1, 0, 98, 98);
+        due("33 without the third a vat FITS", x.liar(), 2);
+        x.forget();
+        x.report(0, 0, 9, 9);
+        x.report(1, 0, 9, 9);
+        x.report(1, 1, 1, 1);
+        due("32 butts of CHALK 0 to 2", x.lone(0), 3);
+        x.water(0, 4);
+        // By RISE 1, SALT 0 they leak 2; kegs and casks of 9 leak nothing, but don't PAY; a vat of 9 leaks 1 and PAYS.
+        due("32 none", x.lone(0), 0);
+        due("33 the least but for which some would", x.liar(), 1);
     }
 
     private static void lots() {
@@ -827,6 +913,10 @@ public final class PromisesTest {
         due("40 OVER ahead of the third", x.judge(), 3);
         due("37 fewer", x.prove(4), 2);
         due("38 the third is gone", x.row(2, 0), -9);
+        x.ends(12);
+        due("37 four", x.prove(4), 4);
+        due("38 the fourth", x.row(3, 2), 3);
+        due("40 four", x.judge(), 0);
         due("37 none", x.prove(0), 0);
         due("40 none", x.judge(), 0);
     }
@@ -853,6 +943,10 @@ public final class PromisesTest {
             for (int other = 0; other < 5; other++) {
                 if (other != sort) due("43 another sort", x.item(sort % 4, other, 99), -13);
             }
+        }
+        for (int v : new int[] {0, 1, -1, MIN}) {
+            x.write(0, 0, v);
+            due("42 whether it is not 0", x.item(0, 4, 0), v == 0 ? 0 : 1);
         }
         due("42 outside", x.write(1, 40, 1), -12);
         due("42 below", x.write(1, -1, 1), -12);
@@ -891,6 +985,7 @@ public final class PromisesTest {
         due("45 one", x.wouldBe(0, 0, 1), 8);
         due("45 no ACT", x.wouldBe(0, 0, 2), STATE);
         due("45 below 0", x.wouldBe(0, 2, 1), STATE);
+        due("45 the last", x.wouldBe(0, 3, 1), 6);
         due("45 the last, then outside", x.wouldBe(0, 3, 2), -12);
         due("45 below", x.wouldBe(0, -1, 2), -12);
         due("45 far outside", x.wouldBe(0, MAX, 2), -12);
