@@ -1,7 +1,5 @@
 /** Each promise of the document by answers counted by hand: ordinary ones, edges, wrong inputs. */
-public final class PromisesTest {
-    private static final int BAD = -1, FULL = -2, NONE = -3, STATE = -4;
-    private static final int MIN = Integer.MIN_VALUE, MAX = Integer.MAX_VALUE;
+public final class PromisesTest extends Cellars {
     private static final Check CHECK = new Check("PromisesTest");
 
     public static void main(String[] args) {
@@ -41,18 +39,6 @@ public final class PromisesTest {
 
     private static void due(String call, int got, int want) {
         CHECK.due(call, got, want);
-    }
-
-    /** TIER 0 has STEP 9, so that all but kegs full of chalk may be staked there. */
-    private static FloodCellar open() {
-        FloodCellar x = new FloodCellar();
-        for (int f = 0; f < 6; f++) x.tier(f, 0, 9);
-        return x;
-    }
-
-    private static int tell(FloodCellar x, String text) {
-        for (int i = 0; i < text.length(); i++) x.feed(text.charAt(i), 1);
-        return x.rules();
     }
 
     private static void newObject() {
