@@ -421,6 +421,13 @@ public final class HostEdgesTest extends Cellars {
             due("rolls", act(2, p[0], p[1], 0, 1), 2 + 3 * p[0]);
             due("seeps", act(2, p[0], p[1], 1, 1), 2 + 3 * p[0] - 4 * p[1] ^ 17);
         }
+        FloodCellar y = shelved(5, 0, 2);
+        due("parted by 0", y.act(0, 3, 1), -15);
+        due("rolls behind it", y.act(0, 0, 1), 2);
+        due("its TRACE", y.trace(0), 10);
+        due("seeps behind it", y.act(0, 1, 1), 6);
+        y.change(0, 3, 1);
+        due("by -1 behind it", y.act(0, 2, 1), -3);
         due("by 1", act(2, 1, 2, 2, -15), -15);
         due("by -1", act(2, 1, 0, 2, 8), -8);
         due("number 2 in TIER 1", act(2, 2, 1, 2, 8), 8);

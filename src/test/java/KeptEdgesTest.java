@@ -6,6 +6,7 @@ public final class KeptEdgesTest extends Cellars {
         againWithoutKeep();
         keptNew();
         keptFull();
+        keptReports();
         keptLatest();
         notKept();
         S.end();
@@ -107,6 +108,36 @@ public final class KeptEdgesTest extends Cellars {
             due("z", x.seed(3), MIN);
             due("full as then", x.barrel(1, 1, 1, 1), FULL);
         }
+    }
+
+    private static void keptReports() {
+        says("It becomes what was kept latest");
+        // By RISE 2 a tun of 99 leaves 91 behind one TIDE, as does no other; butts leave 95, 91 behind two.
+        int[][] others = {{2, 0, 91, 91}, {1, 1, 1, 1}, {1, 0, 90, 91}, {1, 0, 91, 95}};
+        for (int[] o : others) {
+            FloodCellar x = new FloodCellar();
+            x.report(0, 0, 0, 99);
+            x.report(1, 0, 91, 91);
+            x.keep();
+            x.forget();
+            x.report(0, 0, 0, 99);
+            x.report(o[0], o[1], o[2], Math.max(o[2], o[3]));
+            x.again();
+            due("REPORTS that FIT, behind " + java.util.Arrays.toString(o), x.lone(0), 10);
+            due("their KIND", x.lone(1), 2);
+            due("their FILL", x.lone(3), 99);
+        }
+        FloodCellar y = new FloodCellar();
+        y.report(1, 0, 90, 91);
+        y.report(1, 1, 1, 1);
+        y.keep();
+        y.forget();
+        y.report(1, 0, 0, 98);
+        y.report(1, 0, 1, 1);
+        y.again();
+        // Vats leave 98, 88; tuns 91 and PAY; butts 95; kegs, casks 97.
+        due("each of two REPORTS", y.lone(0), 10);
+        due("tuns", y.lone(1), 2);
     }
 
     private static void keptLatest() {

@@ -86,6 +86,12 @@ public final class RulesEdgesTest extends Cellars {
         due("an empty TAPE", x.rules(), 0);
         due("how many then", x.many(1), 0);
         due("the keg is told by none", x.barrelOf(1, 9), 0);
+        // No text leaves anything behind that the next one lacks room for.
+        String longest = "keg if " + "1=2 or ".repeat(25) + "fill=";
+        for (int i = 0; i < 9; i++) {
+            due("a long text, " + i, tell(x, longest + (i % 2 == 0 ? "5" : "6") + " bung;"), 1);
+            due("WILL by it, " + i, x.barrelOf(1, 9), i % 2 == 0 ? 2 : 0);
+        }
         tell(x, EIGHT);
         due("blanks alone", tell(x, "   "), 0);
         due("how many then", x.many(1), 0);
@@ -122,6 +128,12 @@ public final class RulesEdgesTest extends Cellars {
         says("8 RULES at most");
         due("eight", read(EIGHT), 8);
         due("eight and blanks", read(EIGHT + "     "), 8);
+        FloodCellar x = new FloodCellar();
+        x.barrel(4, 5, 0, 0);
+        tell(x, "vat leave;".repeat(7) + "keg if fill=5 bung;");
+        due("the eighth holds", x.barrelOf(0, 9), 2);
+        x.change(0, 1, 6);
+        due("the eighth doesn't hold", x.barrelOf(0, 9), 0);
         due("eight that fill THE TAPE", read("vat if fill < 3 leave   ;".repeat(8)), 8);
         says("the first NAME of the ninth RULE, too");
         fault(EIGHT + "vat leave;", 80);
@@ -314,6 +326,10 @@ public final class RulesEdgesTest extends Cellars {
     private static void bytesThatCannotStand() {
         says("the place (from 0) of the first byte of the first NAME, NUMBER or other byte that can't stand there");
         fault("nothing", 0);
+        fault("vatz leave;", 0);
+        fault("vata leave;", 0);
+        fault(";".repeat(200), 0);
+        fault("vat if " + "(".repeat(193), 10);
         fault("   nothing", 3);
         fault(";", 0);
         fault("vat;", 3);

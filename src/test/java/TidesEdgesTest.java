@@ -58,6 +58,12 @@ public final class TidesEdgesTest extends Cellars {
         // FILL 60: it FLOATS 2, PAYS 9; of 60 it loses a third of 8.
         due("the last MAY", x.tide(), 10);
         due("it is STAKED", x.state(4), 4);
+        due("no more MAY then", x.tide(), 1);
+        tell(x, "vat bung;keg bung;");
+        x.change(0, 1, 1);
+        due("the first would be bunged", x.tide(), 1);
+        due("so none is told", x.barrelOf(0, 2), 0);
+        tell(x, "");
         x.change(0, 1, 1);
         due("the first MAY then", x.tide(), 3 + 1);
         due("both are STAKED", x.state(4), 5);

@@ -261,6 +261,10 @@ public final class VaultEdgesTest extends Cellars {
         y.change(0, 3, 5);
         y.change(1, 3, 4);
         due("TIER 4 below TIER 5", y.barrelOf(0, 5), 6);
+        y.change(0, 3, 4);
+        y.change(1, 3, 5);
+        y.remake(1, 2);
+        due("above the first BARREL", y.barrelOf(1, 5), 6);
     }
 
     private static int lift(int kind, int fill, int chalk, int number) {
@@ -583,6 +587,16 @@ public final class VaultEdgesTest extends Cellars {
             due("the least of " + what, x.change(0, what, 0), most[what]);
             due("it is so", x.barrelOf(0, what), 0);
         }
+        FloodCellar six = new FloodCellar();
+        for (int k = 0; k < 6; k++) six.barrel(1, 10 * k, k, 5 - k);
+        for (int k = 0; k < 6; k++) {
+            due("FILL of " + k, six.change(k, 1, 99), 10 * k);
+            due("CHALK of " + k, six.change(k, 2, 9), k);
+            due("TIER of " + k, six.change(k, 3, 0), 5 - k);
+            due("STAKED of " + k, six.change(k, 4, 1), 0);
+            due("STAKED of " + k + " as it is", six.change(k, 4, 1), 1);
+        }
+        for (int k = 0; k < 6; k++) due("not STAKED of " + k, six.change(k, 4, 0), 1);
         for (int what : new int[] {-1, 0, 5, 9, MIN, MAX}) due("what " + what, x.change(0, what, 1), BAD);
         due("KIND stays", x.barrelOf(0, 0), 1);
         for (int k : new int[] {-1, 1, 6, MIN, MAX}) due("BARREL " + k, x.change(k, 4, 1), BAD);
