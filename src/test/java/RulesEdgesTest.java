@@ -192,6 +192,8 @@ public final class RulesEdgesTest extends Cellars {
         due("four digits of a small one", holds("0099 = fill"), 1);
         due("four digits of none", holds("0000 = 0"), 1);
         due("100", holds("100 > fill"), 1);
+        due("none is less than none", holds("1 = 2 or 0 < 0"), 0);
+        due("none is less than none, turned", holds("1 = 1 and not 0 < 0"), 1);
         due("1000", holds("1000 = 100"), 0);
     }
 
