@@ -1,4 +1,9 @@
 import java.lang.management.ManagementFactory;
+import java.lang.reflect.Array;
+import java.lang.reflect.Field;
+import java.lang.reflect.Modifier;
+import java.util.IdentityHashMap;
+import java.util.Map;
 import java.util.Random;
 
 /** No call throws, whatever its arguments; and none makes objects, so that a long run keeps to its room. */
@@ -8,7 +13,7 @@ public final class RoomTest {
     private static final com.sun.management.ThreadMXBean THREADS =
         (com.sun.management.ThreadMXBean) ManagementFactory.getThreadMXBean();
 
-    public static void main(String[] args) {
+    public static void main(String[] args) throws Exception {
         int[] sums = new int[2];
         for (int seed = 0; seed < 300; seed++) {
             int first = goThrough(seed);
@@ -17,6 +22,7 @@ public final class RoomTest {
         }
         CHECK.holds("answers differ by run", sums[0] != sums[1]);
         makesNothing();
+        takesLittle();
         CHECK.end();
     }
 
@@ -60,6 +66,35 @@ public final class RoomTest {
             // The first rounds still load classes; the text of the rules itself is a few hundred bytes.
             if (round == 2) CHECK.holds("no objects are made, but " + made + " bytes were (" + sum + ")", made < 2000);
         }
+    }
+
+    /** A run has room for 600,000 objects and arrays, 7,300,000 fields and elements: for 2,000 cellars, if they stay this small. */
+    private static void takesLittle() throws Exception {
+        Map<Object, Boolean> seen = new IdentityHashMap<>();
+        int elements = count(new FloodCellar(), seen);
+        CHECK.holds(seen.size() + " objects and arrays in a cellar are 300 at most", seen.size() <= 300);
+        CHECK.holds(elements + " fields and elements in a cellar are 3,600 at most", elements <= 3600);
+    }
+
+    private static int count(Object it, Map<Object, Boolean> seen) throws Exception {
+        if (it == null || seen.put(it, true) != null) return 0;
+        int elements = 0;
+        if (it.getClass().isArray()) {
+            for (int i = 0; i < Array.getLength(it); i++) {
+                elements++;
+                if (it instanceof Object[] all) elements += count(all[i], seen);
+            }
+            return elements;
+        }
+        for (Class<?> c = it.getClass(); c != Object.class; c = c.getSuperclass()) {
+            for (Field f : c.getDeclaredFields()) {
+                if (Modifier.isStatic(f.getModifiers())) continue;
+                elements++;
+                f.setAccessible(true);
+                if (!f.getType().isPrimitive()) elements += count(f.get(it), seen);
+            }
+        }
+        return elements;
     }
 
     private static int call(FloodCellar x, int call, int a, int b, int c, int d) {
